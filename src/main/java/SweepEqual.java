@@ -325,6 +325,7 @@ public final class SweepEqual {
         private static final int WORD_VARIABLES = 6;
         private static final int ASSIGNMENT_MASK = (1 << VARIABLES) - 1;
         private static final int NODES_AT_FIRST = 32;
+        private static final long MARK_FACTOR = 0x9E3779B97F4A7C15L;
         private static final long[] WORD_PATTERNS = {
             0xAAAAAAAAAAAAAAAAL, 0xCCCCCCCCCCCCCCCCL, 0xF0F0F0F0F0F0F0F0L,
             0xFF00FF00FF00FF00L, 0xFFFF0000FFFF0000L, 0xFFFFFFFF00000000L
@@ -333,6 +334,7 @@ public final class SweepEqual {
         int count;
         private final int[] owners;
         private final int[] firsts;
+        private final long[] marks;
         private long[] rows;
 
         Nodes() {
@@ -340,6 +342,7 @@ public final class SweepEqual {
             owners = new int[MOST];
             owners[0] = BOTH_SIDES;
             firsts = new int[MOST];
+            marks = new long[MOST];
             rows = new long[NODES_AT_FIRST * WORDS];
         }
 
@@ -451,6 +454,7 @@ public final class SweepEqual {
         private int settle(int owner) {
             int node = count;
             owners[node] = owner;
+            marks[node] = markOf(node);
             firsts[node] = findFirst(node);
             count++;
             return 2 * node;
@@ -460,13 +464,28 @@ public final class SweepEqual {
             int literal = 2 * node;
             int atZero = valueIn(literal, 0);
             for (int lesser = 0; lesser < node; lesser++) {
-                // Only the literal that agrees in assignment 0 can be the same.
-                int candidate = 2 * lesser + (valueIn(2 * lesser, 0) ^ atZero);
-                if (leastDifference(candidate, literal) == NONE) {
-                    return candidate;
+                if (marks[lesser] == marks[node]) {
+                    // Only the literal that agrees in assignment 0 can be the same.
+                    int candidate = 2 * lesser + (valueIn(2 * lesser, 0) ^ atZero);
+                    if (leastDifference(candidate, literal) == NONE) {
+                        return candidate;
+                    }
                 }
             }
             return literal;
+        }
+
+        // Nodes of one class have one mark, so that most other nodes are passed by without a look at their rows.
+        // FALSE has mark 0, which is there from the start.
+        private long markOf(int node) {
+            int start = node * WORDS;
+            long turn = -(rows[start] & 1);
+            long mark = 0;
+            for (int w = 0; w < WORDS; w++) {
+                mark = (mark ^ rows[start + w] ^ turn) * MARK_FACTOR;
+                mark ^= mark >>> 32;
+            }
+            return mark;
         }
 
         private boolean isLeast(int node) {

@@ -14,6 +14,9 @@ public final class SweepEqualAgainstModel {
     private static final int LATCH = 1;
     private static final int AND = 2;
     private static final int CLEAR = 20;
+    private static final int[] HARD = {
+        Integer.MIN_VALUE, Integer.MIN_VALUE + 1, -4096, -256, -2, -1, 1 << 30, Integer.MAX_VALUE - 1, Integer.MAX_VALUE
+    };
 
     /** Numbers from a fixed seed, so that each run of the test makes the same calls. */
     private static final class Numbers {
@@ -429,6 +432,14 @@ public final class SweepEqualAgainstModel {
         }
     }
 
+    /** Now and then one of the arguments is as small or as large as numbers get. */
+    private static int[] hardened(Numbers numbers, int[] arguments) {
+        if (numbers.below(40) == 0) {
+            arguments[numbers.below(arguments.length)] = HARD[numbers.below(HARD.length)];
+        }
+        return arguments;
+    }
+
     private static int pickStart(Numbers numbers) {
         return numbers.below(10) == 0 ? numbers.below(5) - 2 : numbers.below(2);
     }
@@ -467,7 +478,7 @@ public final class SweepEqualAgainstModel {
         int calls = run % 40 == 0 ? 150 : CALLS;
         for (int call = 0; call < calls; call++) {
             int kind = call < mostVariables ? numbers.below(2) : pickKind(numbers, model, mostVariables, addsOfTen);
-            int[] arguments = pickArguments(numbers, model, kind);
+            int[] arguments = hardened(numbers, pickArguments(numbers, model, kind));
             String want = "0";
             if (kind == CLEAR) {
                 model = new Model();
