@@ -659,6 +659,19 @@ public final class SweepEqualBoundaries {
             due(8, () -> x.and(0, of0, of0 + 1));
             due(10, () -> x.and(1, of1 + 1, of1));
         });
+        test(4, "an AND is no reset", () -> {
+            SweepEqual x = clockedApart();
+            x.and(0, 2, 3);
+            dueClockedApart(x);
+        });
+        test(4, "an AND that comes behind a step is told in the next one", () -> {
+            SweepEqual x = with(1, 1);
+            x.step(1);
+            int gate = x.and(1, 2, 5);
+            x.output(1, gate);
+            due(2, () -> x.step(1));
+            due(1, () -> x.out(1, 0));
+        });
     }
 
     private static void andsThrownFirst() {

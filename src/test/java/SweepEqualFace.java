@@ -1,5 +1,6 @@
 import java.lang.reflect.Constructor;
 import java.lang.reflect.Field;
+import java.lang.reflect.Member;
 import java.lang.reflect.Method;
 import java.lang.reflect.Modifier;
 import java.util.Arrays;
@@ -10,29 +11,30 @@ import java.util.stream.Collectors;
 /** Holds the visible members of the class against the document's face and the first rules of LANGUAGE.md. */
 public final class SweepEqualFace {
     private static final String[] FACE = {
-        "int NONE = -1",
-        "SweepEqual()",
-        "int input() throws IllegalStateException",
-        "int latch(int, int) throws IllegalStateException, IllegalArgumentException",
-        "int and(int, int, int) throws IndexOutOfBoundsException, IllegalStateException, IllegalArgumentException",
-        "int output(int, int) throws IndexOutOfBoundsException, IllegalStateException, IllegalArgumentException",
-        "int next(int, int, int) throws IndexOutOfBoundsException, IllegalArgumentException",
-        "boolean same(int, int) throws IndexOutOfBoundsException",
-        "int first(int) throws IndexOutOfBoundsException",
-        "int classes()",
-        "int merged(int) throws IndexOutOfBoundsException",
-        "int hangs(int) throws IndexOutOfBoundsException",
-        "int ones(int) throws IndexOutOfBoundsException",
-        "int value(int, int) throws IndexOutOfBoundsException",
-        "int differs(int) throws IndexOutOfBoundsException",
-        "int witness(int) throws IndexOutOfBoundsException",
-        "void reset()",
-        "int step(int)",
-        "int out(int, int) throws IndexOutOfBoundsException",
-        "int state(int, int) throws IndexOutOfBoundsException",
-        "int apart()",
-        "int count(int) throws IndexOutOfBoundsException",
-        "void clear()"
+        "public static final int NONE = -1",
+        "public SweepEqual()",
+        "public int input() throws IllegalStateException",
+        "public int latch(int, int) throws IllegalStateException, IllegalArgumentException",
+        "public int and(int, int, int)"
+                + " throws IndexOutOfBoundsException, IllegalStateException, IllegalArgumentException",
+        "public int output(int, int) throws IndexOutOfBoundsException, IllegalStateException, IllegalArgumentException",
+        "public int next(int, int, int) throws IndexOutOfBoundsException, IllegalArgumentException",
+        "public boolean same(int, int) throws IndexOutOfBoundsException",
+        "public int first(int) throws IndexOutOfBoundsException",
+        "public int classes()",
+        "public int merged(int) throws IndexOutOfBoundsException",
+        "public int hangs(int) throws IndexOutOfBoundsException",
+        "public int ones(int) throws IndexOutOfBoundsException",
+        "public int value(int, int) throws IndexOutOfBoundsException",
+        "public int differs(int) throws IndexOutOfBoundsException",
+        "public int witness(int) throws IndexOutOfBoundsException",
+        "public void reset()",
+        "public int step(int)",
+        "public int out(int, int) throws IndexOutOfBoundsException",
+        "public int state(int, int) throws IndexOutOfBoundsException",
+        "public int apart()",
+        "public int count(int) throws IndexOutOfBoundsException",
+        "public void clear()"
     };
 
     public static void main(String[] args) throws IllegalAccessException {
@@ -41,11 +43,13 @@ public final class SweepEqualFace {
         Class<?> type = SweepEqual.class;
         for (Field field : type.getDeclaredFields()) {
             if (!Modifier.isPrivate(field.getModifiers())) {
-                got.add(field.getType().getSimpleName() + " " + field.getName() + " = " + field.get(null));
+                got.add(seen(field) + field.getType().getSimpleName() + " "
+                        + field.getName() + " = " + field.get(null));
             }
         }
         for (Constructor<?> made : type.getDeclaredConstructors()) {
-            got.add("SweepEqual(" + names(made.getParameterTypes()) + ")" + thrown(made.getExceptionTypes()));
+            got.add(seen(made) + "SweepEqual(" + names(made.getParameterTypes()) + ")"
+                    + thrown(made.getExceptionTypes()));
         }
         boolean twice = false;
         Set<String> publicNames = new TreeSet<>();
@@ -56,19 +60,31 @@ public final class SweepEqualFace {
         }
         for (Method method : type.getDeclaredMethods()) {
             if (!Modifier.isPrivate(method.getModifiers())) {
-                got.add(method.getReturnType().getSimpleName() + " " + method.getName()
+                got.add(seen(method) + method.getReturnType().getSimpleName() + " " + method.getName()
                         + "(" + names(method.getParameterTypes()) + ")" + thrown(method.getExceptionTypes()));
             } else if (publicNames.contains(method.getName())) {
                 twice = true;
                 System.out.println("a private method bears the name " + method.getName());
             }
         }
+        boolean inside = true;
+        for (Class<?> nested : type.getDeclaredClasses()) {
+            int modifiers = nested.getModifiers();
+            if (!Modifier.isStatic(modifiers) || Modifier.isPublic(modifiers) || Modifier.isProtected(modifiers)) {
+                inside = false;
+                System.out.println("not as rule 1 has it: " + Modifier.toString(modifiers) + " " + nested.getName());
+            }
+        }
         boolean sealed = Modifier.isFinal(type.getModifiers()) && Modifier.isPublic(type.getModifiers());
-        if (!want.equals(got) || twice || !sealed) {
+        if (!want.equals(got) || twice || !inside || !sealed) {
             System.out.println("the face is " + got + ", due is " + want + "; public and final: " + sealed);
             System.exit(1);
         }
         System.out.println("the face is as due");
+    }
+
+    private static String seen(Member member) {
+        return Modifier.toString(member.getModifiers()) + " ";
     }
 
     private static String names(Class<?>[] types) {
